@@ -14,6 +14,7 @@ public final class OrderedMaps {
 
     private static final int MOST_THINGS = 300;
     private static final int MOST_PARTS = 100;
+    private static final long SIGN_BIT = 1L << 63;
 
     private final Thing[] things;
     private int made;
@@ -496,12 +497,10 @@ public final class OrderedMaps {
             this.entries = entries;
         }
 
-        @Override
         int count() {
             return entries.length;
         }
 
-        @Override
         boolean isWhatIs(Thing other) {
             if (!(other instanceof KeyMap map) || map.bits != bits || map.count() != count()) {
                 return false;
@@ -514,7 +513,6 @@ public final class OrderedMaps {
             return true;
         }
 
-        @Override
         boolean keepsRules() {
             for (int i = 0; i < entries.length; i++) {
                 if (entries[i] == null || strict && !entries[i].known) {
@@ -531,9 +529,9 @@ public final class OrderedMaps {
             return bits == other.bits && strict == other.strict;
         }
 
-        /** Adding the least long turns the order without sign into the signed one. */
+        /** With the sign bit turned, longs without sign have the signed order. */
         boolean isBefore(long a, long b) {
-            return bits ? a + Long.MIN_VALUE < b + Long.MIN_VALUE : a < b;
+            return bits ? (a ^ SIGN_BIT) < (b ^ SIGN_BIT) : a < b;
         }
 
         int keysBefore(long key) {
@@ -643,18 +641,15 @@ public final class OrderedMaps {
             this.items = items;
         }
 
-        @Override
         int count() {
             return items.length;
         }
 
-        @Override
         boolean isWhatIs(Thing other) {
             return other instanceof Row row && sameItems(items, row.items);
         }
 
         /** A row has no rule of its own beside how many items there may be. */
-        @Override
         boolean keepsRules() {
             return true;
         }
@@ -682,17 +677,14 @@ public final class OrderedMaps {
             this.items = items;
         }
 
-        @Override
         int count() {
             return items.length;
         }
 
-        @Override
         boolean isWhatIs(Thing other) {
             return other instanceof Heap heap && sameItems(items, heap.items);
         }
 
-        @Override
         boolean keepsRules() {
             for (int i = 1; i < items.length; i++) {
                 if (items[i - 1] > items[i]) {

@@ -211,8 +211,9 @@ public final class AllTest {
     private static final int MAP = 105;
     private static final int ROW = 166;
     private static final int HEAP = 227;
+    private static final int OTHER = 228;
 
-    /** 300 things: 0 to 3 empty maps, 4 a row, 5 a heap, MAP of 100 keys, ROW and HEAP of 60 items. */
+    /** 300 things: 0 to 3 empty maps, 4 a row, 5 a heap, MAP of 100 keys, ROW and HEAP of 60. */
     private static OrderedMaps full() {
         OrderedMaps x = new OrderedMaps();
         x.map(false, false);
@@ -233,7 +234,8 @@ public final class AllTest {
         for (int i = 0; i < 60; i++) {
             heap = x.push(heap, i);
         }
-        for (int i = heap + 1; i < 300; i++) {
+        due.is("a map with another key", x.put(1, 777, 1, 1), OTHER);
+        for (int i = OTHER + 1; i < 300; i++) {
             x.heap();
         }
         due.is("300 things", x.told(0), 300);
@@ -253,13 +255,14 @@ public final class AllTest {
         due.is("put: -1 first", x.put(unknown, 1, 1, 1), -1);
         due.is("put: -4 ahead of -2", x.put(map, 100, 1, 1), -4);
         due.is("put: -4 ahead of the failure", x.put(map, 1, 1, 0), -4);
-        due.is("nothing was worked", x.worked(), 100);
+        due.is("nothing was worked", x.worked(), 101);
         due.is("drop: -1 first", x.drop(unknown, 1), -1);
         due.is("drop: -4", x.drop(map, 1), -4);
-        due.is("drop: -4 ahead of -3", x.drop(map, 777), -4);
+        due.is("drop: -4 ahead of -3", x.drop(map, 778), -4);
         due.is("union: -1 first", x.union(map, unknown), -1);
         due.is("union: -3 ahead of -4", x.union(map, 0), -3);
         due.is("union: -4", x.union(map, 1), -4);
+        due.is("union: -4 ahead of -2", x.union(map, OTHER), -4);
         due.is("both: -1 first", x.both(unknown, map), -1);
         due.is("both: -3 ahead of -4", x.both(map, 3), -3);
         due.is("both: -4", x.both(map, 1), -4);
