@@ -193,7 +193,7 @@ public final class OrderedMaps {
         if (old.count() >= MOST_PARTS) {
             return OUTSIDE;
         }
-        return store(new Row(inserted(old.items, ahead ? 0 : old.count(), item)));
+        return store(new Row(old.itemsWith(ahead ? 0 : old.count(), item)));
     }
 
     public int join(int a, int b) {
@@ -287,7 +287,7 @@ public final class OrderedMaps {
         if (old.count() >= MOST_PARTS) {
             return OUTSIDE;
         }
-        return store(new Heap(inserted(old.items, old.itemsBelow(item), item)));
+        return store(new Heap(old.itemsWith(old.itemsBelow(item), item)));
     }
 
     public int meld(int a, int b) {
@@ -437,26 +437,6 @@ public final class OrderedMaps {
         entry.number = entry.n / entry.d;
         entry.known = true;
         return entry.number;
-    }
-
-    private static long[] inserted(long[] items, int place, long item) {
-        long[] all = new long[items.length + 1];
-        System.arraycopy(items, 0, all, 0, place);
-        all[place] = item;
-        System.arraycopy(items, place, all, place + 1, items.length - place);
-        return all;
-    }
-
-    private static boolean sameItems(long[] a, long[] b) {
-        if (a.length != b.length) {
-            return false;
-        }
-        for (int i = 0; i < a.length; i++) {
-            if (a[i] != b[i]) {
-                return false;
-            }
-        }
-        return true;
     }
 
     private abstract static class Thing {
@@ -634,10 +614,10 @@ public final class OrderedMaps {
         }
     }
 
-    private static final class Row extends Thing {
+    private abstract static class Items extends Thing {
         final long[] items;
 
-        Row(long[] items) {
+        Items(long[] items) {
             this.items = items;
         }
 
@@ -645,8 +625,35 @@ public final class OrderedMaps {
             return items.length;
         }
 
+        boolean hasItemsOf(Items other) {
+            if (items.length != other.items.length) {
+                return false;
+            }
+            for (int i = 0; i < items.length; i++) {
+                if (items[i] != other.items[i]) {
+                    return false;
+                }
+            }
+            return true;
+        }
+
+        /** The place is from 0 to how many there are. */
+        long[] itemsWith(int place, long item) {
+            long[] all = new long[items.length + 1];
+            System.arraycopy(items, 0, all, 0, place);
+            all[place] = item;
+            System.arraycopy(items, place, all, place + 1, items.length - place);
+            return all;
+        }
+    }
+
+    private static final class Row extends Items {
+        Row(long[] items) {
+            super(items);
+        }
+
         boolean isWhatIs(Thing other) {
-            return other instanceof Row row && sameItems(items, row.items);
+            return other instanceof Row row && hasItemsOf(row);
         }
 
         /** A row has no rule of its own beside how many items there may be. */
@@ -670,19 +677,13 @@ public final class OrderedMaps {
     }
 
     /** The items stand in ascending order, so that heaps with the same items are alike in all places. */
-    private static final class Heap extends Thing {
-        final long[] items;
-
+    private static final class Heap extends Items {
         Heap(long[] items) {
-            this.items = items;
-        }
-
-        int count() {
-            return items.length;
+            super(items);
         }
 
         boolean isWhatIs(Thing other) {
-            return other instanceof Heap heap && sameItems(items, heap.items);
+            return other instanceof Heap heap && hasItemsOf(heap);
         }
 
         boolean keepsRules() {

@@ -20,9 +20,15 @@ public final class SoundTest {
     }
 
     private static Field field(Object of, String name) throws ReflectiveOperationException {
-        Field field = of.getClass().getDeclaredField(name);
-        field.setAccessible(true);
-        return field;
+        for (Class<?> each = of.getClass(); each != null; each = each.getSuperclass()) {
+            for (Field field : each.getDeclaredFields()) {
+                if (field.getName().equals(name)) {
+                    field.setAccessible(true);
+                    return field;
+                }
+            }
+        }
+        throw new NoSuchFieldException(name);
     }
 
     private static Object part(OrderedMaps x, int number, String name) throws ReflectiveOperationException {
