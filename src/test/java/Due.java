@@ -2,6 +2,7 @@
 final class Due {
     private int wrong = 0;
     private int asked = 0;
+    private String under = "";
 
     void is(String call, long got, long want) {
         asked++;
@@ -30,10 +31,19 @@ final class Due {
         }
     }
 
+    /** What stands ahead of each fault from now on. */
+    void under(String name) {
+        under = name;
+    }
+
+    int asked() {
+        return asked;
+    }
+
     void tell(String fault) {
         wrong++;
         if (wrong <= 50) {
-            System.out.println(fault);
+            System.out.println(under + fault);
         }
     }
 
