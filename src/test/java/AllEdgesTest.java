@@ -235,6 +235,8 @@ public final class AllEdgesTest {
         int row = Edges.rowOf(x, 1, 2, 1);
         due.is("turned, it is the same", x.same(row, x.turned(row)), 1);
         due.is("other places", x.same(row, Edges.rowOf(x, 1, 1, 2)), 0);
+        due.is("another first", x.same(row, x.replace(row, 0, 5)), 0);
+        due.is("another last", x.same(row, x.replace(row, 2, 5)), 0);
         due.is("one less", x.same(row, Edges.rowOf(x, 1, 2)), 0);
         due.is("one more", x.same(row, Edges.rowOf(x, 1, 2, 1, 1)), 0);
         due.is("without items", x.same(Edges.rowOf(x), Edges.rowOf(x)), 1);
@@ -248,6 +250,8 @@ public final class AllEdgesTest {
         due.is("melded", x.same(heap, x.meld(Edges.heapOf(x, 1), Edges.heapOf(x, 1, 2))), 1);
         due.is("popped", x.same(heap, x.pop(Edges.heapOf(x, 2, 1, 0, 1))), 1);
         due.is("not as often", x.same(heap, Edges.heapOf(x, 2, 1, 2)), 0);
+        due.is("another least", x.same(heap, Edges.heapOf(x, 0, 1, 2)), 0);
+        due.is("another most", x.same(heap, Edges.heapOf(x, 1, 1, 3)), 0);
         due.is("one less", x.same(heap, Edges.heapOf(x, 1, 2)), 0);
         due.is("one more", x.same(heap, Edges.heapOf(x, 1, 2, 1, 1)), 0);
         due.is("without items", x.same(Edges.heapOf(x), Edges.heapOf(x)), 1);
