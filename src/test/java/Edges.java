@@ -3,9 +3,14 @@ import java.lang.reflect.InvocationTargetException;
 import java.lang.reflect.Method;
 import java.nio.file.Files;
 import java.nio.file.Path;
+import java.util.ArrayList;
 import java.util.Arrays;
 import java.util.Comparator;
+import java.util.LinkedHashSet;
 import java.util.List;
+import java.util.Set;
+import java.util.regex.Matcher;
+import java.util.regex.Pattern;
 
 /** Runs the tests of boundary cases, and has what they share. */
 final class Edges {
@@ -14,6 +19,7 @@ final class Edges {
     static final int[] NO_NUMBERS = {-1, -2, 299, 300, Integer.MIN_VALUE, Integer.MAX_VALUE};
 
     private static final Path DOCUMENT = Path.of("../shared/DOC.md");
+    private static final Pattern CODE = Pattern.compile("-[1-4]|[A-Z][A-Za-z]*Exception");
 
     final Due due = new Due();
 
@@ -62,6 +68,22 @@ final class Edges {
             }
         }
         return promise == 0 ? parts[0] : "";
+    }
+
+    /** What a promise tells behind its call, up to the next heading; of the terms nothing. */
+    static String toldOf(int promise) throws IOException {
+        String words = wordsOf(promise);
+        return promise == 0 ? "" : words.substring(words.indexOf("`:") + 2).split("\n## ")[0];
+    }
+
+    /** The codes and exceptions of a promise, in the order in which it tells them. */
+    static List<String> codesOf(int promise) throws IOException {
+        Matcher found = CODE.matcher(toldOf(promise));
+        Set<String> codes = new LinkedHashSet<>();
+        while (found.find()) {
+            codes.add(found.group());
+        }
+        return new ArrayList<>(codes);
     }
 
     /** Numbers that no thing has, in an object with fewer than 299 things, from its own next number on. */

@@ -2,17 +2,15 @@ import java.io.IOException;
 import java.lang.reflect.Method;
 import java.util.ArrayList;
 import java.util.List;
-import java.util.Set;
-import java.util.TreeSet;
-import java.util.regex.Matcher;
-import java.util.regex.Pattern;
 
-/** That the tests of boundary cases quote the document, and that each promise and each code has one. */
+/** That the tests of cases quote the document, and that no word of what it promises is left without one. */
 public final class EdgesListTest {
-    private static final Class<?>[] TESTS = {TermsEdgesTest.class, MapEdgesTest.class, RowEdgesTest.class,
-        HeapEdgesTest.class, AllEdgesTest.class};
+    private static final Class<?>[] TESTS = {SentencesTest.class, TermsEdgesTest.class, MapEdgesTest.class,
+        RowEdgesTest.class, HeapEdgesTest.class, AllEdgesTest.class, SoundTest.class};
     private static final int PROMISES = 33;
-    private static final Pattern CODE = Pattern.compile("-[1-4]|[A-Z][A-Za-z]*Exception|false|False");
+    /** What needs no test of its own: the first is asked of every act, the second promises nothing. */
+    private static final String[] NOT_QUOTED = {": its number.",
+        "after it has been made; what later calls answer is free"};
     private static final Due due = new Due();
 
     public static void main(String[] args) throws IOException {
@@ -24,38 +22,55 @@ public final class EdgesListTest {
         }
         for (Edge edge : edges) {
             due.is("promise " + edge.promise() + " says \"" + edge.says() + "\"",
-                    Edges.wordsOf(edge.promise()).contains(edge.says()), true);
+                    wordsToQuote(edge.promise()).contains(edge.says()), true);
         }
         for (int promise = 0; promise <= PROMISES; promise++) {
-            eachCodeIsQuoted(promise, edges);
+            List<String> quotes = quotesOf(promise, edges);
+            due.is("there are cases of promise " + promise, quotes.isEmpty(), false);
+            eachCodeIsQuoted(promise, quotes);
+            eachWordIsQuoted(promise, quotes);
         }
         due.is("there is no promise behind the last", Edges.wordsOf(PROMISES + 1).isEmpty(), true);
-        System.out.println(edges.size() + " boundary cases");
+        System.out.println(edges.size() + " cases");
         due.end();
     }
 
-    private static Set<String> codesIn(String words) {
-        Set<String> codes = new TreeSet<>();
-        Matcher found = CODE.matcher(words);
-        while (found.find()) {
-            codes.add(found.group());
+    /** Without headings and calls, which FaceTest looks at, and without how the interface is headed. */
+    private static String wordsToQuote(int promise) throws IOException {
+        if (promise > 0) {
+            return Edges.toldOf(promise);
         }
-        return codes;
+        return Edges.wordsOf(0).replaceAll("(?s)```.*?```", "").replaceAll("(?m)^(#|Ahead of the calls).*$", "");
     }
 
-    /** The codes that stand among the terms are tested with the calls that tell them. */
-    private static void eachCodeIsQuoted(int promise, List<Edge> edges) throws IOException {
-        StringBuilder quoted = new StringBuilder();
+    private static List<String> quotesOf(int promise, List<Edge> edges) {
+        List<String> quotes = new ArrayList<>();
         for (Edge edge : edges) {
             if (edge.promise() == promise) {
-                quoted.append(edge.says()).append('\n');
+                quotes.add(edge.says());
             }
         }
-        due.is("there are edges of promise " + promise, quoted.length() > 0, true);
-        String words = Edges.wordsOf(promise);
-        String told = promise == 0 ? "" : words.substring(words.indexOf("`:") + 2).split("\n## ")[0];
-        for (String code : codesIn(told)) {
-            due.is("promise " + promise + " has an edge of " + code, codesIn(quoted.toString()).contains(code), true);
+        return quotes;
+    }
+
+    private static void eachCodeIsQuoted(int promise, List<String> quotes) throws IOException {
+        String all = String.join("\n", quotes);
+        for (String code : Edges.codesOf(promise)) {
+            due.is("promise " + promise + " has a case of " + code, all.contains(code), true);
         }
+    }
+
+    private static void eachWordIsQuoted(int promise, List<String> quotes) throws IOException {
+        String words = wordsToQuote(promise);
+        StringBuilder left = new StringBuilder(words);
+        List<String> all = new ArrayList<>(quotes);
+        all.addAll(List.of(NOT_QUOTED));
+        for (String quote : all) {
+            for (int at = words.indexOf(quote); at >= 0; at = words.indexOf(quote, at + 1)) {
+                left.replace(at, at + quote.length(), "_".repeat(quote.length()));
+            }
+        }
+        String rest = left.toString().replaceAll("[_\\s.,:;()]+", " ").strip();
+        due.is("promise " + promise + " without the words \"" + rest + "\" is quoted", rest.isEmpty(), true);
     }
 }

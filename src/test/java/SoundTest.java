@@ -3,16 +3,12 @@ import java.lang.reflect.Field;
 
 /** Promise 31: no run of calls breaks a rule, so this test breaks one from outside and asks sound(). */
 public final class SoundTest {
-    private static final Due due = new Due();
+    private static final String RULES = "Whether the rules by which a THING is kept hold within it";
+    private static final Edges edges = new Edges();
+    private static final Due due = edges.due;
 
     public static void main(String[] args) throws ReflectiveOperationException {
-        keysOutOfOrder();
-        aKeyTwice();
-        aKeyMissing();
-        aStrictValueUnworked();
-        heapOutOfOrder();
-        tooMany();
-        due.end();
+        edges.runAll(SoundTest.class);
     }
 
     private static Object thing(OrderedMaps x, int number) throws ReflectiveOperationException {
@@ -46,7 +42,8 @@ public final class SoundTest {
         return x.put(x.put(x.put(x.map(bits, strict), 1, 1, 1), -2, 1, 1), 3, 1, 1);
     }
 
-    private static void keysOutOfOrder() throws ReflectiveOperationException {
+    @Edge(promise = 31, says = RULES)
+    static void keysOutOfOrder() throws ReflectiveOperationException {
         for (boolean bits : new boolean[] {false, true}) {
             for (int place = 0; place < 2; place++) {
                 OrderedMaps x = new OrderedMaps();
@@ -59,7 +56,8 @@ public final class SoundTest {
         }
     }
 
-    private static void aKeyTwice() throws ReflectiveOperationException {
+    @Edge(promise = 31, says = RULES)
+    static void aKeyTwice() throws ReflectiveOperationException {
         OrderedMaps x = new OrderedMaps();
         int map = mapOfThree(x, false, false);
         Object entries = part(x, map, "entries");
@@ -67,14 +65,16 @@ public final class SoundTest {
         due.is("a key twice", x.sound(map), false);
     }
 
-    private static void aKeyMissing() throws ReflectiveOperationException {
+    @Edge(promise = 31, says = RULES)
+    static void aKeyMissing() throws ReflectiveOperationException {
         OrderedMaps x = new OrderedMaps();
         int map = mapOfThree(x, false, false);
         Array.set(part(x, map, "entries"), 2, null);
         due.is("a key missing", x.sound(map), false);
     }
 
-    private static void aStrictValueUnworked() throws ReflectiveOperationException {
+    @Edge(promise = 31, says = RULES)
+    static void aStrictValueUnworked() throws ReflectiveOperationException {
         for (int place = 0; place < 3; place++) {
             OrderedMaps x = new OrderedMaps();
             int map = mapOfThree(x, false, true);
@@ -85,7 +85,8 @@ public final class SoundTest {
         }
     }
 
-    private static void heapOutOfOrder() throws ReflectiveOperationException {
+    @Edge(promise = 31, says = RULES)
+    static void heapOutOfOrder() throws ReflectiveOperationException {
         for (int place = 0; place < 2; place++) {
             OrderedMaps x = new OrderedMaps();
             int heap = x.push(x.push(x.push(x.heap(), 1), 2), 3);
@@ -95,7 +96,8 @@ public final class SoundTest {
         }
     }
 
-    private static void tooMany() throws ReflectiveOperationException {
+    @Edge(promise = 31, says = RULES)
+    static void tooMany() throws ReflectiveOperationException {
         OrderedMaps x = new OrderedMaps();
         int row = x.row();
         field(thing(x, row), "items").set(thing(x, row), new long[100]);

@@ -96,7 +96,7 @@ public final class TermsEdgesTest {
         due.fails("get of another key", NoSuchElementException.class, () -> x.get(1, 8));
     }
 
-    @Edge(promise = 0, says = "has 100 KEYS or ITEMS at most")
+    @Edge(promise = 0, says = "and has 100 KEYS or ITEMS at most")
     static void aMapHas100Keys() {
         OrderedMaps x = new OrderedMaps();
         int map = Edges.mapOfMany(x, false, 0, 100);
@@ -108,7 +108,7 @@ public final class TermsEdgesTest {
         due.is("sound", x.sound(map), true);
     }
 
-    @Edge(promise = 0, says = "has 100 KEYS or ITEMS at most")
+    @Edge(promise = 0, says = "and has 100 KEYS or ITEMS at most")
     static void aRowHas100Items() {
         OrderedMaps x = new OrderedMaps();
         int row = Edges.rowOfMany(x, 100);
@@ -118,7 +118,7 @@ public final class TermsEdgesTest {
         due.is("sound", x.sound(row), true);
     }
 
-    @Edge(promise = 0, says = "has 100 KEYS or ITEMS at most")
+    @Edge(promise = 0, says = "and has 100 KEYS or ITEMS at most")
     static void aHeapHas100Items() {
         OrderedMaps x = new OrderedMaps();
         int heap = Edges.heapOfMany(x, 100);
@@ -268,7 +268,7 @@ public final class TermsEdgesTest {
         }
     }
 
-    @Edge(promise = 0, says = "the number is kept then")
+    @Edge(promise = 0, says = "and the number is kept then")
     static void theNumber0IsKeptToo() {
         OrderedMaps x = new OrderedMaps();
         int map = x.put(x.put(x.map(false, false), 1, 0, 5), 2, LEAST, -1);
