@@ -94,6 +94,12 @@ final class Model {
         return value.number;
     }
 
+    /** 1 a map, 2 a row, 3 a heap, 0 no thing: for who draws calls, the class has no such call. */
+    int sortOf(int number) {
+        if (known(Object.class, number) == null) return 0;
+        return maplet(number) != null ? 1 : rowlet(number) != null ? 2 : 3;
+    }
+
     void clear() {
         things.clear();
     }

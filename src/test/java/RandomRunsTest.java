@@ -2,15 +2,16 @@ import java.lang.reflect.InvocationTargetException;
 import java.lang.reflect.Method;
 import java.lang.reflect.Modifier;
 import java.util.HashMap;
-import java.util.HashSet;
+import java.util.List;
 import java.util.Map;
 import java.util.Random;
-import java.util.Set;
 
 /** Runs of 512 calls (as many as the document allows) whose answers are compared with the model's. */
 public final class RandomRunsTest {
     private static final int RUNS = 4000;
     private static final int CALLS = 512;
+    /** How often each code and exception has to be met, for the runs to show that it is told where it is due. */
+    private static final int OFTEN = 20;
     private static final String[] NAMES = {"map", "put", "drop", "union", "both", "less", "part", "kept", "has",
         "get", "key", "rank", "fold", "row", "add", "join", "cut", "replace", "turned", "at", "find", "heap",
         "push", "meld", "pop", "least", "size", "same", "sound", "worked", "told", "clear"};
@@ -53,7 +54,7 @@ public final class RandomRunsTest {
         "sound true", "sound false", "worked 0", "worked 99", "told -2", "told 0", "told 300"};
     private static final Map<String, Method> OF_CLASS = methods(OrderedMaps.class);
     private static final Map<String, Method> OF_MODEL = methods(Model.class);
-    private static final Set<String> met = new HashSet<>();
+    private static final Map<String, Integer> met = new HashMap<>();
 
     private static Random random;
     private static int focus;
@@ -61,6 +62,14 @@ public final class RandomRunsTest {
     private static int growing;
     private static int failing;
     private static int clearing;
+    /** In a run with phases a new family of things begins at times, with keys that the older ones have not. */
+    private static int phase;
+    private static long base;
+    /** The thing of the family that has most parts, and that of the family before. */
+    private static int largest;
+    private static int older;
+    private static boolean bits;
+    private static boolean strict;
 
     public static void main(String[] args) {
         Due due = new Due();
@@ -72,6 +81,9 @@ public final class RandomRunsTest {
             growing = new int[] {30, 60, 85, 93}[random.nextInt(4)];
             failing = new int[] {0, 3, 25}[random.nextInt(3)];
             clearing = random.nextInt(4) == 0 ? 150 : 100000;
+            phase = new int[] {CALLS, 70, 110}[random.nextInt(3)];
+            bits = random.nextBoolean();
+            strict = random.nextBoolean();
             run(due, run);
         }
         everyCodeWasMet(due);
@@ -82,31 +94,54 @@ public final class RandomRunsTest {
     private static void run(Due due, int run) {
         OrderedMaps x = new OrderedMaps();
         Model model = new Model();
+        largest = -1;
         for (int i = 0; i < CALLS; i++) {
             Call call = drawn(model);
+            if (i % phase == 0) {
+                beginFamily(call, i);
+            }
+            int things = model.told(0);
             String want = answer(call, model, OF_MODEL);
             String got = answer(call, x, OF_CLASS);
-            met.add(call.name + " " + want);
+            met.merge(call.name + " " + want, 1, Integer::sum);
+            if (model.told(0) > things && model.size(things) >= model.size(largest)) {
+                largest = things;
+            }
             if (!got.equals(want)) {
                 due.tell("run " + run + ", call " + i + ": " + call + " answered " + got + ", due is " + want);
             }
         }
     }
 
+    private static void beginFamily(Call call, int i) {
+        call.name = new String[] {"map", "map", "row", "heap"}[focus];
+        call.yes = bits;
+        call.also = strict;
+        older = largest;
+        largest = -1;
+        base = 1000000L * i;
+    }
+
     private static Call drawn(Model model) {
-        int things = model.told(0);
         Call call = new Call();
         call.name = name();
-        call.a = thing(things);
-        call.b = thing(things);
+        call.a = thing(call.name, model);
+        call.b = random.nextInt(4) == 0 ? older : thing(call.name, model);
         call.n = random.nextInt(20) == 0 ? anyInt() : random.nextInt(Math.max(1, model.size(call.a)) + 2) - 1;
         call.side = random.nextInt(12) == 0 ? anyInt() : random.nextInt(2);
-        call.key = number();
-        call.p = number();
+        call.key = key(call, model);
+        call.p = random.nextInt(2) == 0 ? number() : key(call, model);
         call.q = random.nextInt(100) < failing ? 0 : divisor();
         call.yes = random.nextBoolean();
         call.also = random.nextInt(3) == 0;
         return call;
+    }
+
+    /** Half of the keys are those of the map, but for put, where most are new. */
+    private static long key(Call call, Model model) {
+        boolean isHeld = random.nextInt(call.name.equals("put") ? 20 : 2) == 0;
+        int size = model.size(call.a);
+        return isHeld && size > 0 && model.sortOf(call.a) == 1 ? model.key(call.a, random.nextInt(size)) : number();
     }
 
     /** Three of four kinds of run keep to one sort of thing, so that those grow up to the limit. */
@@ -123,12 +158,26 @@ public final class RandomRunsTest {
         return random.nextInt(100) < growing ? grow : NAMES[from + random.nextInt(to - from)];
     }
 
-    private static int thing(int things) {
+    private static int sortOf(String name) {
+        int place = List.of(NAMES).indexOf(name);
+        return place < 13 ? 1 : place < 21 ? 2 : place < 26 ? 3 : 0;
+    }
+
+    /** Most often a thing of the sort that the call wants; the largest one first, so that it grows. */
+    private static int thing(String name, Model model) {
+        int things = model.told(0);
         int luck = random.nextInt(30);
         if (luck == 0 || things == 0) {
             return random.nextBoolean() ? things : anyInt();
         }
-        return random.nextInt(100) < growing ? things - 1 : random.nextInt(things);
+        int thing = random.nextInt(100) < growing && largest < things ? largest : random.nextInt(things);
+        for (int i = 0; luck > 2 && i < things && sortOf(name) != 0; i++) {
+            int fitting = Math.floorMod(thing - i, things);
+            if (model.sortOf(fitting) == sortOf(name)) {
+                return fitting;
+            }
+        }
+        return thing;
     }
 
     private static int anyInt() {
@@ -140,7 +189,7 @@ public final class RandomRunsTest {
         if (luck == 0) {
             return random.nextLong();
         }
-        return luck < 4 ? EDGES[random.nextInt(EDGES.length)] : random.nextInt(keySpan) - keySpan / 3;
+        return luck < 4 ? EDGES[random.nextInt(EDGES.length)] : base + random.nextInt(keySpan) - keySpan / 3;
     }
 
     private static long divisor() {
@@ -191,10 +240,10 @@ public final class RandomRunsTest {
         return x instanceof Model || Due.isThrownByTheClass(thrown);
     }
 
-    /** A run that never met a code or an exception would not show that it is told where it is due. */
     private static void everyCodeWasMet(Due due) {
         for (String code : DUE_CODES) {
-            due.is("the runs met " + code, met.contains(code), true);
+            int times = met.getOrDefault(code, 0);
+            due.is("the runs met " + code + " " + times + " times: often", times >= OFTEN, true);
         }
     }
 }
